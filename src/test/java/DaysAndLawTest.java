@@ -47,7 +47,8 @@ public final class DaysAndLawTest {
                 Due.is("skyTold most", x.skyTold(d, what), most[what]);
                 Due.is("sky above most", x.sky(d, what, most[what] + 1), -7);
                 Due.is("sky below 0", x.sky(d, what, -1), -7);
-                Due.is("sky was", x.sky(d, what, 1), most[what]);
+                Due.is("sky was", x.sky(d, what, 0), most[what]);
+                Due.is("sky was 0", x.sky(d, what, 1), 0);
             }
         }
         for (int d = 0; d < 14; d++) {
@@ -118,6 +119,10 @@ public final class DaysAndLawTest {
         Due.is("empty by a fault", x.count(4), 0);
         Due.is("texts", x.count(2), 4);
         Due.is("law", x.count(3), 0);
+        Due.is("a fault", Due.text(x, "falls 7;blows 8;rots 9"), -122);
+        Due.is("behind it", Due.text(x, "falls 4;blows 5;rots 6;"), 4);
+        x.force(4);
+        for (int part = 0; part < 3; part++) Due.is("nothing is left of the fault's", x.asks(part, 0, 0, 0, 0), 4 + part);
     }
 
     private static void fault(String text, int place) {
@@ -137,6 +142,10 @@ public final class DaysAndLawTest {
         fault("falls falls;", 6);
         fault("falls 1 1;", 8);
         fault("falls 1 left;", 8);
+        fault("falls 1;blows 1;rots 1;#", 23);
+        fault("falls 1;blows 1;rots 1; 12345", 24);
+        fault("falls frostz;", 6);
+        fault("falls afrost;", 6);
         fault("falls 12345;", 6);
         fault("falls 00001;", 6);
         fault("falls 1 12345;", 8);
@@ -281,7 +290,10 @@ public final class DaysAndLawTest {
         Due.is("hanging 9999", x.asks(0, 9999, 0, 0, 9999), 2);
         Due.is("strongFrost -1", x.asks(0, 0, -1, 0, 0), -2);
         Due.is("strongFrost 2", x.asks(0, 0, 2, 0, 0), -2);
+        Due.is("strongFrost 91", x.asks(0, 0, 91, 0, 0), 51);
+        Due.is("strongFrost 90", x.asks(0, 0, 90, 0, 0), 11);
         Due.is("strongFrost 92", x.asks(0, 0, 92, 0, 0), -2);
+        Due.is("strongFrost 110", x.asks(0, 0, 110, 0, 0), -2);
         Due.is("strongFrost 100", x.asks(0, 0, 100, 0, 0), -2);
         Due.is("wetSort -1", x.asks(0, 0, 0, -1, 0), -2);
         Due.is("wetSort 20", x.asks(0, 0, 0, 20, 0), -2);

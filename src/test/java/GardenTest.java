@@ -41,6 +41,13 @@ public final class GardenTest {
             Due.is("plotted " + c, x.cellTold(c, 0), in ? 2 : 0);
             Due.is("plotted more " + c, x.cellTold(c, 1), in ? 5 : 0);
         }
+        Due.is("one row of three, cut", x.plot(4, 13, 5, 1), 2);
+        int[] cut = {0, 5, 5, 0};
+        for (int c = 3; c < 7; c++) Due.is("plotted " + c, x.cellTold(c, 0), cut[c - 3]);
+        Due.is("three rows of one, cut", x.plot(25, 31, 3, 1), 2);
+        int[] high = {19, 24, 25, 26, 31};
+        int[] told = {0, 0, 3, 0, 3};
+        for (int k = 0; k < 5; k++) Due.is("plotted " + high[k], x.cellTold(high[k], 0), told[k]);
         Due.is("as far as they are there", x.plot(28, 55, 4, 0), 4);
         Due.is("corner", x.cellTold(35, 0), 4);
         Due.is("not the next row's", x.cellTold(30, 0), 0);
@@ -90,8 +97,10 @@ public final class GardenTest {
         x.tree(2, 2, 2);
         x.image();
         x.tree(3, 3, 3);
+        Due.is("HANG", x.sum(0, 1), 6);
         Due.is("the latest", x.fell(), 2);
         Due.is("it is none", x.treeTold(2, 0), -5);
+        Due.is("nor hang its leaves", x.sum(0, 1), 3);
         Due.is("no image of it", x.back(), 2);
         Due.is("one of the image's", x.fell(), 1);
         Due.is("no image any more", x.back(), -3);

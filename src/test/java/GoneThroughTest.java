@@ -163,6 +163,8 @@ public final class GoneThroughTest {
     private static void lawOfBlows() {
         LeavesBeforeWind x = thirtyAndTen("falls 0;blows (strong=5)*(33+wet*16+left+sort);rots 0;");
         lies("33 and 49 of a hundred, cut", x, 3, 8, 9, 4);
+        x.tree(35, 5, 9);
+        lies("left and sort are no tree's", x, 3, 8, 9, 4);
         LeavesBeforeWind y = thirtyAndTen("falls 0;blows (strong=5)*many;rots 0;");
         lies("40 of a hundred", y, 3, 8, 12, 4);
         LeavesBeforeWind z = thirtyAndTen("falls 0;blows frost*50;rots 0;");
@@ -185,6 +187,8 @@ public final class GoneThroughTest {
         lies("40 and 49 of a hundred, cut", x, 3, 7, 18, 6);
         Due.is("rotten", x.sum(3, 2), 16);
         Due.is("no strength, none", x.sum(2, 2), 0);
+        x.tree(35, 5, 9);
+        Due.is("left and sort are no tree's", x.sum(3, 2), 16);
         LeavesBeforeWind y = thirtyAndTen("falls 0;blows (strong=5)*100;rots frost*50;");
         y.sky(2, 2, 1);
         lies("they rot where they have blown to", y, 3, 8, 15, 5);

@@ -3,6 +3,7 @@ public final class LotsAndImageTest {
     public static void main(String[] args) {
         drawn();
         drawnKeepsTheRest();
+        drawnKeepsTheTrees();
         odds();
         lotRefusals();
         image();
@@ -48,6 +49,15 @@ public final class LotsAndImageTest {
         Due.is("rain as told", x.drawn(5, 2, 2), 4);
         Due.is("raking as told", x.drawn(5, 3, 3), 4);
         Due.is("what it cost", x.drawn(5, 3, 4), (2 + 4 * 2) * 2 + 30);
+    }
+
+    private static void drawnKeepsTheTrees() {
+        LeavesBeforeWind x = Due.under("falls sort;blows 0;rots 0;");
+        x.tree(7, 3, 99);
+        x.tree(8, 4, 5);
+        Due.is("each by its sort", x.drawn(5, 1, 0), 7);
+        Due.is("no more than hang", x.drawn(5, 2, 0), 11);
+        Due.is("hang yet", x.drawn(5, 2, 1), 93);
     }
 
     private static void odds(LeavesBeforeWind x, int seed, int seeds, int most, long above, long below) {

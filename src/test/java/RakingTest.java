@@ -8,6 +8,7 @@ public final class RakingTest {
         leastOfLikeOnes();
         leastOfAllCells();
         thrice();
+        thriceByDay();
         oneHeap();
         twoHeaps();
         whereBehindDays();
@@ -84,6 +85,21 @@ public final class RakingTest {
         Due.is("50 less 110", y.thrice(), -60);
         y.heap(1L << 7);
         Due.is("30 less 30", y.thrice(), 0);
+    }
+
+    /** One day's frost tells on which days is raked: ahead of which leaves fall, behind which they are rotten. */
+    private static void thriceByDay() {
+        for (int d = 0; d < 13; d++) {
+            LeavesBeforeWind falls = Due.under("falls (frost=1)*20;blows 0;rots 0;");
+            falls.tree(7, 0, 40);
+            falls.sky(d, 2, 1);
+            falls.sky(13, 2, 1);
+            Due.is("20 fall on day " + d + ", 20 on day 13", falls.thrice(), d <= 9 ? 30 : 0);
+            LeavesBeforeWind rots = Due.under("falls 0;blows 0;rots (frost=1)*100;");
+            rots.strew(7, 20);
+            rots.sky(d, 2, 1);
+            Due.is("20 rot on day " + d, rots.thrice(), d <= 4 ? 0 : 70);
+        }
     }
 
     private static void where(LeavesBeforeWind x, int heap, int price, int two, int priceOfTwo) {

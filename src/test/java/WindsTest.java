@@ -25,6 +25,9 @@ public final class WindsTest {
         night(x, 0, 30, 10 + 6, 0, 4);
         night(x, 0, 0, 20, 0, 0);
         night(x, 0, 20, 10 + 4 + 6, 0, 0);
+        x.strew(33, 5);
+        night(x, 0, 0, 20, 5, 0);
+        x.strew(33, 0);
         Due.wind(x, 2, 0);
         night(x, 1, 20, 0, 20, 0);
         night(x, 2, 20, 0, 0, 0);
@@ -61,6 +64,9 @@ public final class WindsTest {
         LeavesBeforeWind x = Due.allBlow();
         Due.is("none lie", x.hurdle(14, 0, 0), 0);
         Due.is("none lie", x.hurdle(14, 0, 1), 0);
+        x.strew(0, 10);
+        hurdle(x, 1, 0, 0, 10);
+        x.strew(0, 0);
         x.strew(6, 10);
         Due.wind(x, 1, 0);
         hurdle(x, 0, 0, 6, 10);
@@ -112,6 +118,11 @@ public final class WindsTest {
         share(x, 3, 3, 4, 23);
         x.rake(16383);
         share(x, 2, 1, 13, 20);
+        LeavesBeforeWind one = Due.allBlow();
+        one.strew(0, 1);
+        share(one, 0, 2, 0, 1);
+        one.sky(0, 0, 2);
+        share(one, 1, 2, 1, 1);
     }
 
     private static void away() {
@@ -119,17 +130,19 @@ public final class WindsTest {
         x.strew(8, 10);
         Due.is("all by each", x.away(0), 0);
         Due.is("all by each", x.away(1), 10);
-        int[] ahead = {2, 13, 32, 16};
-        int[] way = {0, 1, 2, 3};
-        for (int k = 0; k < 4; k++) {
+        int[][] lanes = {{14, 20, 26, 32}, {14, 15, 16, 17}, {14, 8, 2}, {14, 13, 12}};
+        for (int way = 0; way < 4; way++) {
             LeavesBeforeWind y = Due.allBlow();
             y.strew(14, 9);
             y.plot(0, 66, 2, 0);
-            int step = new int[] {6, 1, -6, -1}[k];
-            for (int c = 14; c >= 0 && c < 36 && (step * step > 1 || c / 6 == 2); c += step) y.lay(c, 0, 0);
-            Due.is("out of " + ahead[k], y.away(0), way[k]);
+            for (int c : lanes[way]) y.lay(c, 0, 0);
+            Due.is("the lane is open by", y.away(0), way);
             Due.is("how many", y.away(1), 9);
         }
+        LeavesBeforeWind early = new LeavesBeforeWind();
+        early.strew(0, 100);
+        early.sky(0, 1, 5);
+        Due.is("the first day's, too", early.away(0), 2);
         LeavesBeforeWind z = new LeavesBeforeWind();
         z.strew(0, 100);
         z.sky(13, 1, 5);
