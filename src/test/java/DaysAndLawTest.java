@@ -9,6 +9,7 @@ public final class DaysAndLawTest {
         texts();
         faults();
         faultsOfDepth();
+        tapesEnd();
         fullBook();
         force();
         firstLaw();
@@ -199,6 +200,27 @@ public final class DaysAndLawTest {
         fault("falls (((((not 1)))))" + rest, 11);
         fault("falls (((((-1)))))" + rest, 11);
         Due.is("- behind a one is no opening", Due.text(new LeavesBeforeWind(), "falls (((((1-1)))))" + rest), 1);
+    }
+
+    /** What an earlier, longer text left behind the tape's end is no part of it; nor is what is behind a full tape. */
+    private static void tapesEnd() {
+        LeavesBeforeWind x = new LeavesBeforeWind();
+        Due.is("longer", Due.text(x, "falls 12345678"), -106);
+        Due.is("shorter", Due.text(x, "falls 1"), -107);
+        Due.is("longer", Due.text(x, "falls leftleft"), -106);
+        Due.is("shorter", Due.text(x, "falls left"), -110);
+        Due.is("cut short", Due.text(x, "falls lef"), -106);
+        String start = "falls 1;blows 2;rots 3";
+        for (String end : new String[] {"", " ", "+4", "+lef", "+left", "-", "<"}) {
+            String text = start + " ".repeat(159 - start.length() - end.length()) + end;
+            Due.is("160 bytes, " + end + ";", Due.text(new LeavesBeforeWind(), text + ";"), dueOfFullTape(end));
+            Due.is("160 bytes, " + end, Due.text(new LeavesBeforeWind(), " " + text), end.equals("+lef") ? -257 : -260);
+        }
+    }
+
+    private static int dueOfFullTape(String end) {
+        if (end.equals("+lef")) return -256;
+        return end.equals("-") || end.equals("<") ? -259 : 1;
     }
 
     private static void fullBook() {
