@@ -1,16 +1,35 @@
+import java.lang.reflect.Method;
+import java.util.Arrays;
+import java.util.Comparator;
+
 /** What the tests have in common: answers that are due, and texts fed to the tape. */
 final class Due {
     private static int wrong = 0;
+    private static String test = "";
 
     static void is(String call, long got, long want) {
         if (got == want) return;
         wrong++;
-        System.out.println(call + " answered " + got + ", due is " + want);
+        System.out.println(test + call + " answered " + got + ", due is " + want);
     }
 
     static void end() {
         System.out.println(wrong == 0 ? "all answers are as due" : wrong + " answers are not as due");
         if (wrong != 0) System.exit(1);
+    }
+
+    /** Runs every method of a class that is named by the promise (or the chapter "Terms") whose sentence it tests. */
+    static void everySentence(Class<?> tests) throws ReflectiveOperationException {
+        Method[] methods = tests.getDeclaredMethods();
+        Arrays.sort(methods, Comparator.comparing(Method::getName));
+        for (Method m : methods) {
+            if (!m.getName().matches("(promise[0-9]+|terms)[A-Z].*")) continue;
+            test = m.getName() + ": ";
+            m.setAccessible(true);
+            m.invoke(null);
+        }
+        test = "";
+        end();
     }
 
     /** Feeds a text's bytes, five at once as far as they go. */
