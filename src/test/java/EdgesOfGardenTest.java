@@ -158,6 +158,7 @@ public final class EdgesOfGardenTest {
             Due.is("count", x.count(0), left);
             Due.is("the latest is none", x.treeTold(left, 0), -5);
             if (left > 0) Due.is("the one ahead of it is", x.treeTold(left - 1, 2), 9 + left);
+            Due.is("HANG on the others", x.sum(0, 1), 10 * left + left * (left - 1) / 2);
             Due.is("none hang on it", x.hang(0, left), -5);
             Due.is("its place has nothing", x.taken(36 + left, 6), -11);
         }

@@ -148,14 +148,14 @@ public final class EdgesOfLotsAndImageTest {
         for (int round = 0; round < 3; round++) {
             x.strew(35, round);
             x.lay(35, 5, 99);
-            x.sky(13, 1, 9);
+            for (int what = 0; what < 4; what++) x.sky(13, what, 1);
             x.rake(16383);
             x.heap(1L << 35);
             Due.is("back", x.back(), 0);
             Due.is("LEAVES", x.cellTold(35, 2), 999);
             Due.is("KIND", x.cellTold(35, 0), 0);
             Due.is("MORE", x.cellTold(35, 1), 0);
-            Due.is("STRONG", x.skyTold(13, 1), 0);
+            for (int what = 0; what < 4; what++) Due.is("DAY 13's " + what, x.skyTold(13, what), 0);
             Due.is("RAKING", x.count(1), 0);
             Due.is("HEAPS", x.heap(2), 1);
         }

@@ -42,6 +42,11 @@ public final class EdgesOfWindsTest {
         Due.is("by a DAY with FROST", x.sum(6, 5), 100);
         Due.is("none by night", x.tonight(5, 9, 1), 0);
         Due.is("those that lie lay there", x.tonight(5, 9, 2), 100);
+        LeavesBeforeWind none = Due.under("falls 0;blows (frost=0)*100;rots 0;");
+        none.strew(30, 100);
+        none.sky(0, 2, 1);
+        Due.is("by a DAY with FROST none", none.sum(1, 5), 0);
+        Due.is("by night all", none.tonight(1, 9, 1), 100);
     }
 
     /** Where none lie nothing is told; behind none and behind all DAYS. */

@@ -101,6 +101,10 @@ public final class TermsOfTextsTest {
         fault("falls 1 an 1" + REST, 8);
         fault("falls 1 o 1" + REST, 8);
         fault("falls z" + REST, 6);
+        fault("falls leftz" + REST, 6);
+        fault("falls zleft" + REST, 6);
+        fault("falls aleft" + REST, 6);
+        fault("falls lefta" + REST, 6);
     }
 
     /** "the first TOKEN that can't stand there": a KEY or a NAME at a wrong place. */
@@ -155,6 +159,33 @@ public final class TermsOfTextsTest {
             text = text + token + " ";
         }
         stands(text);
+    }
+
+    /** "FAULT: (the text's size, if it ends too early)": what an earlier, longer text left behind it is no part of it. */
+    private static void termsTooEarlyBehindALongerText() {
+        LeavesBeforeWind x = new LeavesBeforeWind();
+        Due.is("longer", Due.text(x, "falls 12345678"), -106);
+        Due.is("its first digits are a NUMBER", Due.text(x, "falls 1"), -107);
+        Due.is("longer", Due.text(x, "falls leftleft"), -106);
+        Due.is("its first letters are a NAME", Due.text(x, "falls left"), -110);
+        Due.is("fewer are none", Due.text(x, "falls lef"), -106);
+        Due.is("whole", Due.text(x, "falls 1" + REST), 1);
+        Due.is("its start", Due.text(x, "falls 1;blows 1;rots 1"), -122);
+        Due.is("none of it", x.text(), -100);
+    }
+
+    /** "THE TAPE (160 bytes at most)": its last byte is the last of a NUMBER, a NAME, a WORD that is none, a sign. */
+    private static void termsTokenAtTheTapesEnd() {
+        for (String end : new String[] {"1", "left", "many", "-", "(", "not"}) fault(full("falls", end), 160);
+        for (String end : new String[] {"+", "-", "*", "<", "=", "or", "and"}) fault(full("falls 1", end), 160);
+        fault(full("falls", "lef"), 157);
+        fault(full("falls", "12345"), 155);
+        fault(full("falls", ")"), 159);
+    }
+
+    /** 160 bytes: a start, blanks, an end. */
+    private static String full(String start, String end) {
+        return start + " ".repeat(160 - start.length() - end.length()) + end;
     }
 
     /** Of two faults the first counts, be it of a sign, a word, a number or of how many are open. */
@@ -287,11 +318,13 @@ public final class TermsOfTextsTest {
 
     /** "falls, of a TREE: many 0"; "blows, rots: left, sort 0", whatever TREES there are. */
     private static void termsNamesThatAreZero() {
-        LeavesBeforeWind x = Due.under("falls many;blows left+sort;rots left+sort;");
-        x.tree(14, 9, 999);
+        LeavesBeforeWind x = Due.under("falls 7*(many=0);blows 100*(left+sort=0 and left=sort);rots 50*(left=0 and sort=0);");
+        x.tree(0, 9, 999);
         x.strew(14, 100);
-        Due.is("none fall", x.hang(14, 0), 999);
-        Due.is("none blow", x.lie(14, 14, 0), 100);
-        Due.is("none rot", x.sum(14, 2), 0);
+        x.strew(0, 100);
+        Due.is("7 fall", x.hang(1, 0), 992);
+        Due.is("all blow, half rot", x.lie(1, 20, 0), 50);
+        Due.is("also below the TREE", x.lie(1, 6, 0), 54);
+        Due.is("half rot", x.sum(1, 2), 103);
     }
 }
