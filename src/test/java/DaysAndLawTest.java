@@ -3,18 +3,15 @@ public final class DaysAndLawTest {
     public static void main(String[] args) {
         newObject();
         sky();
-        skyRefusals();
         counts();
         tape();
         texts();
         faults();
         faultsOfDepth();
-        tapesEnd();
         fullBook();
         force();
         firstLaw();
         operations();
-        asksRefusals();
         Due.end();
     }
 
@@ -55,18 +52,6 @@ public final class DaysAndLawTest {
         for (int d = 0; d < 14; d++) {
             for (int what = 0; what < 4; what++) Due.is("skyTold 1", x.skyTold(d, what), 1);
         }
-    }
-
-    private static void skyRefusals() {
-        LeavesBeforeWind x = new LeavesBeforeWind();
-        Due.is("sky(-1)", x.sky(-1, 0, 1), -5);
-        Due.is("sky(14)", x.sky(14, 9, 99), -5);
-        Due.is("sky what 4", x.sky(0, 4, 0), -7);
-        Due.is("sky what -1", x.sky(0, -1, 0), -7);
-        Due.is("skyTold(-1)", x.skyTold(-1, 9), -5);
-        Due.is("skyTold(14)", x.skyTold(14, 0), -5);
-        Due.is("skyTold what 4", x.skyTold(13, 4), -7);
-        Due.is("skyTold what -1", x.skyTold(13, -1), -7);
     }
 
     private static void counts() {
@@ -202,27 +187,6 @@ public final class DaysAndLawTest {
         Due.is("- behind a one is no opening", Due.text(new LeavesBeforeWind(), "falls (((((1-1)))))" + rest), 1);
     }
 
-    /** What an earlier, longer text left behind the tape's end is no part of it; nor is what is behind a full tape. */
-    private static void tapesEnd() {
-        LeavesBeforeWind x = new LeavesBeforeWind();
-        Due.is("longer", Due.text(x, "falls 12345678"), -106);
-        Due.is("shorter", Due.text(x, "falls 1"), -107);
-        Due.is("longer", Due.text(x, "falls leftleft"), -106);
-        Due.is("shorter", Due.text(x, "falls left"), -110);
-        Due.is("cut short", Due.text(x, "falls lef"), -106);
-        String start = "falls 1;blows 2;rots 3";
-        for (String end : new String[] {"", " ", "+4", "+lef", "+left", "-", "<"}) {
-            String text = start + " ".repeat(159 - start.length() - end.length()) + end;
-            Due.is("160 bytes, " + end + ";", Due.text(new LeavesBeforeWind(), text + ";"), dueOfFullTape(end));
-            Due.is("160 bytes, " + end, Due.text(new LeavesBeforeWind(), " " + text), end.equals("+lef") ? -257 : -260);
-        }
-    }
-
-    private static int dueOfFullTape(String end) {
-        if (end.equals("+lef")) return -256;
-        return end.equals("-") || end.equals("<") ? -259 : 1;
-    }
-
     private static void fullBook() {
         LeavesBeforeWind x = new LeavesBeforeWind();
         for (int t = 1; t < 6; t++) Due.is("text " + t, Due.text(x, "falls " + t + ";blows 0;rots 0;"), t);
@@ -301,25 +265,5 @@ public final class DaysAndLawTest {
         Due.is("left in blows", y.asks(1, 7, 0, 0, 9), 16);
         Due.is("sort in rots", y.asks(2, 7, 0, 8, 9), 8);
         Due.is("rots below 0", Due.under("falls 0;blows 0;rots -1;").asks(2, 0, 0, 0, 0), 0);
-    }
-
-    private static void asksRefusals() {
-        LeavesBeforeWind x = new LeavesBeforeWind();
-        Due.is("part -1", x.asks(-1, 0, 0, 0, 0), -2);
-        Due.is("part 3", x.asks(3, 0, 0, 0, 0), -2);
-        Due.is("hanging -1", x.asks(0, -1, 0, 0, 0), -2);
-        Due.is("hanging 10000", x.asks(0, 10000, 0, 0, 0), -2);
-        Due.is("hanging 9999", x.asks(0, 9999, 0, 0, 9999), 2);
-        Due.is("strongFrost -1", x.asks(0, 0, -1, 0, 0), -2);
-        Due.is("strongFrost 2", x.asks(0, 0, 2, 0, 0), -2);
-        Due.is("strongFrost 91", x.asks(0, 0, 91, 0, 0), 51);
-        Due.is("strongFrost 90", x.asks(0, 0, 90, 0, 0), 11);
-        Due.is("strongFrost 92", x.asks(0, 0, 92, 0, 0), -2);
-        Due.is("strongFrost 110", x.asks(0, 0, 110, 0, 0), -2);
-        Due.is("strongFrost 100", x.asks(0, 0, 100, 0, 0), -2);
-        Due.is("wetSort -1", x.asks(0, 0, 0, -1, 0), -2);
-        Due.is("wetSort 20", x.asks(0, 0, 0, 20, 0), -2);
-        Due.is("many -1", x.asks(0, 0, 0, 0, -1), -2);
-        Due.is("many 10000", x.asks(0, 0, 0, 0, 10000), -2);
     }
 }

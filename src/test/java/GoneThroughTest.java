@@ -21,7 +21,6 @@ public final class GoneThroughTest {
         great();
         worst();
         corner();
-        refusals();
         Due.end();
     }
 
@@ -318,29 +317,5 @@ public final class GoneThroughTest {
         x.rake(16383);
         Due.is("none do", x.corner(14, 0), 0);
         Due.is("none do", x.corner(14, 1), 0);
-    }
-
-    private static void refusals() {
-        LeavesBeforeWind x = new LeavesBeforeWind();
-        x.tree(0, 0, 9);
-        for (int n = -1; n < 16; n += 16) {
-            Due.is("lie n " + n, x.lie(n, 0, 9), -5);
-            Due.is("sum n " + n, x.sum(n, 9), -5);
-            Due.is("hang n " + n, x.hang(n, 0), -5);
-            Due.is("worst n " + n, x.worst(n, 9), -5);
-            Due.is("corner n " + n, x.corner(n, 9), -5);
-        }
-        Due.is("lie cell", x.lie(14, -1, 9), -5);
-        Due.is("lie cell", x.lie(14, 36, 0), -5);
-        Due.is("lie what", x.lie(0, 0, -1), -7);
-        Due.is("lie what", x.lie(0, 0, 3), -7);
-        Due.is("sum what", x.sum(0, -1), -7);
-        Due.is("sum what", x.sum(0, 9), -7);
-        Due.is("hang tree", x.hang(0, 1), -5);
-        Due.is("hang tree", x.hang(0, -1), -5);
-        Due.is("worst what", x.worst(0, -1), -7);
-        Due.is("worst what", x.worst(0, 2), -7);
-        Due.is("corner what", x.corner(0, -1), -7);
-        Due.is("corner what", x.corner(0, 2), -7);
     }
 }

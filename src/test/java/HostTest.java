@@ -5,10 +5,8 @@ public final class HostTest {
         cell();
         copy();
         copyOntoItself();
-        copyRefusals();
         treesBy();
         treesLeftOut();
-        treesByRefusals();
         takenCells();
         takenTrees();
         Due.end();
@@ -87,25 +85,6 @@ public final class HostTest {
         for (int i = 0; i < 5; i++) Due.is("back " + i, at(x, 0, i), dueBack[i]);
     }
 
-    private static void copyRefusals() {
-        LeavesBeforeWind x = new LeavesBeforeWind();
-        int top = 2147483647;
-        x.sheet(0, 2, 5);
-        x.sheet(1, 1, 5);
-        x.sheet(2, 2, 3);
-        Due.is("sheet -1", x.copy(-1, 0, 3, 0, -1), -2);
-        Due.is("sheet 4", x.copy(0, 0, 4, 0, -1), -2);
-        Due.is("sheet 4", x.copy(4, 0, 0, 0, -1), -2);
-        Due.is("other -1", x.copy(0, 0, -1, 0, -1), -2);
-        Due.is("missing", x.copy(3, 0, 1, 0, -1), -11);
-        Due.is("other missing", x.copy(1, 0, 3, 0, -1), -11);
-        Due.is("unlike sorts", x.copy(0, 0, 1, 0, -1), -13);
-        int[][] outside = {{0, 0, -1}, {-1, 0, 1}, {0, -1, 1}, {3, 0, 3}, {0, 1, 3}, {0, 0, 4}, {6, 0, 0}, {0, 4, 0},
-            {top, 0, 1}, {0, top, 1}, {1, 1, top}, {-top, 0, 1}, {0, 0, -top - 1}, {top, top, -top - 1}};
-        for (int[] k : outside) Due.is("outside", x.copy(0, k[0], 2, k[1], k[2]), -12);
-        Due.is("as far as can be", x.copy(0, 2, 2, 0, 3), 3);
-    }
-
     private static void fill(LeavesBeforeWind x, int sort, int... numbers) {
         x.sheet(0, sort, numbers.length);
         for (int i = 0; i < numbers.length; i++) x.cell(0, i, numbers[i]);
@@ -136,28 +115,6 @@ public final class HostTest {
         x.fell();
         Due.is("128 is -128 as a byte", x.treesBy(0, 0, 0, 2), 1);
         Due.is("127", x.treeTold(3, 2), 127);
-    }
-
-    private static void treesByRefusals() {
-        LeavesBeforeWind x = new LeavesBeforeWind();
-        Due.is("sheet -1", x.treesBy(-1, 0, -1, 1), -2);
-        Due.is("sheet 4", x.treesBy(4, 0, -1, 1), -2);
-        Due.is("sort -1", x.treesBy(0, -1, -1, 1), -2);
-        Due.is("sort 3", x.treesBy(0, 3, -1, 1), -2);
-        Due.is("n -1", x.treesBy(0, 0, -1, -1), -2);
-        Due.is("n 5", x.treesBy(0, 0, -1, 5), -2);
-        Due.is("missing", x.treesBy(0, 0, -1, 1), -11);
-        fill(x, 1, 1, 1, 1, 2, 2, 2, 3, 3);
-        Due.is("another sort", x.treesBy(0, 0, -1, 1), -13);
-        Due.is("place -1", x.treesBy(0, 1, -1, 1), -12);
-        Due.is("place 6", x.treesBy(0, 1, 6, 1), -12);
-        Due.is("a far place", x.treesBy(0, 1, 2147483647, 4), -12);
-        Due.is("none came", x.count(0), 0);
-        Due.is("the third is outside", x.treesBy(0, 1, 0, 3), -12);
-        Due.is("what stood ahead came", x.count(0), 2);
-        Due.is("the second", x.treeTold(1, 0), 2);
-        x.sheet(0, 1, 2);
-        Due.is("too short", x.treesBy(0, 1, 0, 1), -12);
     }
 
     private static void takenCells() {

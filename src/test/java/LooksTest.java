@@ -6,7 +6,6 @@ public final class LooksTest {
         judgeBySorts();
         laws();
         winds();
-        refusals();
         Due.end();
     }
 
@@ -99,33 +98,5 @@ public final class LooksTest {
         Due.is("off by two", edge.winds(0, 1), 4 | 8);
         edge.sky(13, 0, 3);
         Due.is("of the last only", edge.winds(0, 14), 15);
-    }
-
-    private static void refusals() {
-        LeavesBeforeWind x = new LeavesBeforeWind();
-        for (int s = -1; s < 5; s += 5) {
-            Due.is("judge sheet", x.judge(s, 99), -2);
-            Due.is("laws sheet", x.laws(s, 99), -2);
-            Due.is("winds sheet", x.winds(s, 99), -2);
-            Due.is("film sheet", x.film(s, 99), -2);
-        }
-        Due.is("judge missing", x.judge(0, 99), -11);
-        Due.is("laws missing", x.laws(0, 99), -11);
-        Due.is("winds missing", x.winds(0, 99), -11);
-        for (int size = 35; size < 38; size += 2) {
-            x.sheet(0, 0, size);
-            Due.is("judge size", x.judge(0, 99), -2);
-            Due.is("laws size", x.laws(0, 99), -2);
-            Due.is("winds size", x.winds(0, 99), -2);
-        }
-        x.sheet(0, 0, 36);
-        for (int n = -1; n < 16; n += 16) {
-            Due.is("judge n", x.judge(0, n), -7);
-            Due.is("laws n", x.laws(0, n), -7);
-            Due.is("winds n", x.winds(0, n), -7);
-            Due.is("film n", x.film(1, n), -7);
-        }
-        Due.is("winds n 0", x.winds(0, 0), -7);
-        Due.is("a refused film changes nothing", x.cell(1, 0, 0), -11);
     }
 }

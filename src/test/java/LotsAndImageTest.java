@@ -5,7 +5,6 @@ public final class LotsAndImageTest {
         drawnKeepsTheRest();
         drawnKeepsTheTrees();
         odds();
-        lotRefusals();
         image();
         imageKeeps();
         imageLeaves();
@@ -85,25 +84,6 @@ public final class LotsAndImageTest {
         int other = LeavesBeforeWind.NONE;
         for (int k = 0; k < 4; k++) other = Math.max(other, lie[k]);
         odds(x, 100, 4, other, 1, 1);
-    }
-
-    private static void lotRefusals() {
-        LeavesBeforeWind x = new LeavesBeforeWind();
-        long no = LeavesBeforeWind.NO;
-        Due.is("seed -1", x.drawn(-1, 0, 0), -2);
-        Due.is("seed 100000", x.drawn(100000, 0, 0), -2);
-        Due.is("n -1", x.drawn(0, -1, 0), -2);
-        Due.is("n 15", x.drawn(0, 15, 0), -2);
-        Due.is("what -1", x.drawn(0, 0, -1), -2);
-        Due.is("what 9", x.drawn(0, 0, 9), -2);
-        Due.is("seed -1", x.odds(-1, 1, 0, 0), no);
-        Due.is("seed 100000", x.odds(100000, 1, 0, 0), no);
-        Due.is("seeds 0", x.odds(0, 0, 0, 0), no);
-        Due.is("seeds 11", x.odds(0, 11, 0, 0), no);
-        Due.is("most -1", x.odds(0, 1, -1, 0), no);
-        Due.is("most 10000", x.odds(0, 1, 10000, 0), no);
-        Due.is("part -1", x.odds(0, 1, 0, -1), no);
-        Due.is("part 2", x.odds(0, 1, 0, 2), no);
     }
 
     private static void image() {

@@ -13,7 +13,6 @@ public final class RakingTest {
         twoHeaps();
         whereBehindDays();
         raking();
-        refusals();
         Due.end();
     }
 
@@ -172,19 +171,5 @@ public final class RakingTest {
         Due.is("y and x", x.raking(0), 9 * 5 + 5 * 5 + 10 * 10 + 9 + 30);
         x.rake(1);
         Due.is("raked", x.raking(1), 0);
-    }
-
-    private static void refusals() {
-        LeavesBeforeWind x = new LeavesBeforeWind();
-        Due.is("least most -1", x.least(-1, 0), -2);
-        Due.is("least most 15", x.least(15, 0), -2);
-        Due.is("least what -1", x.least(0, -1), -2);
-        Due.is("least what 2", x.least(0, 2), -2);
-        Due.is("where n -1", x.where(-1, 9), -5);
-        Due.is("where n 15", x.where(15, 0), -5);
-        Due.is("where what -1", x.where(14, -1), -7);
-        Due.is("where what 4", x.where(14, 4), -7);
-        Due.is("raking n -1", x.raking(-1), -5);
-        Due.is("raking n 15", x.raking(15), -5);
     }
 }

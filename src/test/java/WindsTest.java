@@ -7,7 +7,6 @@ public final class WindsTest {
         hurdleStays();
         share();
         away();
-        refusals();
         Due.end();
     }
 
@@ -149,29 +148,5 @@ public final class WindsTest {
         Due.is("strength as told", z.away(0), 2);
         Due.is("half", z.away(1), 50);
         Due.is("the days stay", z.skyTold(13, 0), 0);
-    }
-
-    private static void refusals() {
-        LeavesBeforeWind x = new LeavesBeforeWind();
-        x.strew(0, 1);
-        for (int n = -1; n < 16; n += 16) {
-            Due.is("tonight n", x.tonight(n, 40, 0), -5);
-            Due.is("hurdle n", x.hurdle(n, 100, 0), -5);
-            Due.is("share n", x.share(n, 0, 0), LeavesBeforeWind.NO);
-        }
-        Due.is("tonight wayStrong", x.tonight(14, -1, 0), -7);
-        Due.is("tonight wayStrong", x.tonight(14, 40, 0), -7);
-        Due.is("tonight what", x.tonight(14, 39, -1), -7);
-        Due.is("tonight what", x.tonight(14, 39, 3), -7);
-        Due.is("hurdle more", x.hurdle(14, -1, 0), -7);
-        Due.is("hurdle more", x.hurdle(14, 100, 0), -7);
-        Due.is("hurdle what", x.hurdle(14, 0, -1), -7);
-        Due.is("hurdle what", x.hurdle(14, 0, 2), -7);
-        Due.is("share way", x.share(0, -1, 0), LeavesBeforeWind.NO);
-        Due.is("share way", x.share(0, 4, 0), LeavesBeforeWind.NO);
-        Due.is("share part", x.share(0, 0, -1), LeavesBeforeWind.NO);
-        Due.is("share part", x.share(0, 0, 2), LeavesBeforeWind.NO);
-        Due.is("away what", x.away(-1), -2);
-        Due.is("away what", x.away(2), -2);
     }
 }
