@@ -155,7 +155,7 @@ public final class AgainstModelTest {
         int c = lots.next(36), other = lots.next(36), two = x.where(n, 2);
         if (c != other) Due.is("no two cost less", x.where(n, 3) > b.cost(1L << c | 1L << other) ? 1 : 0, 0);
         Due.is("where two", x.where(n, 3), b.cost(1L << two / 100 | 1L << two % 100));
-        Due.is("the lesser, and the other", two / 100 < two % 100 ? 1 : 0, 1);
+        Due.is("the lesser, and the other", two / 100 < two % 100 && two % 100 < 36 ? 1 : 0, 1);
         int[] was = b.all();
         int way = lots.next(4), strong = lots.next(10), off = b.off[way];
         b.blow(way, strong, 0);

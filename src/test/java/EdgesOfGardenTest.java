@@ -33,6 +33,21 @@ public final class EdgesOfGardenTest {
         }
     }
 
+    /** "one of a KIND with MORE": each KIND keeps the MORE that is told, also one that it makes nothing of; plot() "likewise". */
+    private static void promise9EveryKindKeepsMore() {
+        LeavesBeforeWind x = new LeavesBeforeWind();
+        for (int kind = 0; kind < 6; kind++) {
+            for (int more : new int[] {0, 1, 98, 99}) {
+                x.lay(7, kind, more);
+                x.plot(28, 11, kind, more);
+                for (int c = 7; c < 29; c += 21) {
+                    Due.is("KIND " + kind, x.cellTold(c, 0), kind);
+                    Due.is("MORE of KIND " + kind, x.cellTold(c, 1), more);
+                }
+            }
+        }
+    }
+
     /** "BAD: CELL", ahead of -7. */
     private static void promise10BadCell() {
         Refusal.is(-2, "plot(-1, 11, 1, 1)", "plot(36, 11, 1, 1)", "plot(MIN, 11, 1, 1)", "plot(MAX, 11, 1, 1)", "plot(36, 11, 6, 100)");

@@ -166,6 +166,14 @@ public final class EdgesOfRakingTest {
         where(far, 0, 0, 9980 + 30, 35, 60);
     }
 
+    /** "the two (unlike)": two CELLS, also where one HEAP alone would cost less than any two. */
+    private static void promise26TwoWhereOneCostsLess() {
+        LeavesBeforeWind x = Due.under("falls 0;blows 0;rots 0;");
+        for (int c : new int[] {0, 5, 30, 35}) x.strew(c, 1);
+        where(x, 0, 0, 5 + 5 + 10 + 30, 5, 5 + 5 + 60);
+        where(x, 14, 0, 5 + 5 + 10 + 30, 5, 5 + 5 + 60);
+    }
+
     /** "Behind n DAYS ... RAKING then": RAKING that has been, and HEAPS, do not matter but for what lies. */
     private static void promise26ThenAlone() {
         LeavesBeforeWind x = Due.under("falls 3;blows 0;rots 0;");

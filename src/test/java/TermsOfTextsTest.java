@@ -232,6 +232,15 @@ public final class TermsOfTextsTest {
         stands("falls (((((1-1)))))" + REST);
     }
 
+    /** "of ... <, = 1 or 0": of numbers so far from each other that what is between them is no int. */
+    private static void termsLessOfFarNumbers() {
+        String great = "9999*9999*21", small = "-9999*9999";
+        says(great + "<" + small, 0);
+        says(small + "<" + great, 1);
+        says(great + "=" + small, 0);
+        says(great + "=" + great, 1);
+    }
+
     /** "An E is an int (32 bits, wrapping)": from sums, from products, of a - ahead of a ONE. */
     private static void termsIntWraps() {
         // 2147483647
